@@ -97,7 +97,6 @@ public final class ParserParlour {
 
     public int say() {
         wrongPlace = NONE;
-        words.startReading();
         if (words.count == 0) {
             lastOutcome = EMPTY;
         } else if (isVerb(words.peek())) {
@@ -375,12 +374,15 @@ public final class ParserParlour {
 
         Words() {
             given = new int[MOST_WORDS];
-            clear();
+            count = 0;
+            place = 0;
+            adjectives = 0;
+            noun = NONE;
         }
 
         void clear() {
             count = 0;
-            startReading();
+            place = 0;
         }
 
         void add(int word) {
@@ -396,12 +398,6 @@ public final class ParserParlour {
             }
             count--;
             return given[count];
-        }
-
-        void startReading() {
-            place = 0;
-            adjectives = 0;
-            noun = NONE;
         }
 
         boolean atEnd() {
@@ -603,6 +599,7 @@ public final class ParserParlour {
         private final World world;
         private final Order order;
         private final Memory memory;
+        private int reach;
         private int result;
         private int group;
         private int target;
@@ -614,10 +611,11 @@ public final class ParserParlour {
             this.world = world;
             this.order = order;
             this.memory = memory;
-            start();
+            start(0);
         }
 
-        private void start() {
+        private void start(int thingsInReach) {
+            reach = thingsInReach;
             result = DONE;
             group = 0;
             target = NONE;
@@ -627,46 +625,53 @@ public final class ParserParlour {
 
         /** Returns DONE if everything is found, otherwise ASKED or NOTHING. */
         int find() {
-            start();
+            start(world.reachable());
+            int suited = world.suited(order.orderVerb);
             for (int phrase = 0; phrase < order.count && result == DONE; phrase++) {
                 int role = order.roleOf(phrase);
                 if (role == Order.GROUP) {
-                    group |= findPart(phrase);
+                    group |= findPart(phrase, suited);
                 } else if (role == Order.TARGET) {
-                    target = onlyOf(findSingle(phrase, IN));
+                    target = onlyOf(findSingle(phrase, world.suited(IN)));
                 }
             }
             return result;
         }
 
+        /** The thing in a set of one; NONE if the set is empty. */
         private int onlyOf(int set) {
-            return set == 0 ? NONE : Integer.numberOfTrailingZeros(set);
+            for (int thing = 0; thing < MOST_THINGS; thing++) {
+                if (contains(set, thing)) {
+                    return thing;
+                }
+            }
+            return NONE;
         }
 
         /** The singles that a part leaves out are found ahead of the part itself. */
-        private int findPart(int phrase) {
+        private int findPart(int phrase, int suited) {
             int leftOut = 0;
             for (int next = phrase + 1; next < order.count && result == DONE; next++) {
                 if (order.roleOf(next) != Order.LEFT_OUT) {
                     break;
                 }
-                leftOut |= findSingle(next, order.orderVerb);
+                leftOut |= findSingle(next, suited);
             }
             if (result != DONE || !order.hasPhrase(phrase)) {
                 return 0;
             }
             switch (order.kinds[phrase]) {
                 case THEM:
-                    return orNothing(memory.lastMeant & world.reachable(), phrase);
+                    return orNothing(memory.lastMeant & reach, phrase);
                 case ALL:
-                    return orNothing(fitting(phrase) & world.suited(order.orderVerb) & ~leftOut, phrase);
+                    return orNothing(fitting(phrase) & suited & ~leftOut, phrase);
                 default:
-                    return findSingle(phrase, order.orderVerb);
+                    return findSingle(phrase, suited);
             }
         }
 
-        /** The suiting word is the verb or, behind IN, IN. */
-        private int findSingle(int phrase, int suitingWord) {
+        /** Finds a single; suited are the things that the verb suits or, behind IN, that IN suits. */
+        private int findSingle(int phrase, int suited) {
             if (!order.hasPhrase(phrase)) {
                 return 0;
             }
@@ -674,21 +679,21 @@ public final class ParserParlour {
                 return order.answers[phrase];
             }
             if (order.kinds[phrase] == IT) {
-                return orNothing(memory.lastAlone & world.reachable(), phrase);
+                return orNothing(memory.lastAlone & reach, phrase);
             }
             int fitting = fitting(phrase);
             if (Integer.bitCount(fitting) <= 1) {
                 return orNothing(fitting, phrase);
             }
-            int suited = fitting & world.suited(suitingWord);
-            return Integer.bitCount(suited) == 1 ? suited : ask(suited == 0 ? fitting : suited, phrase);
+            int both = fitting & suited;
+            return Integer.bitCount(both) == 1 ? both : ask(both == 0 ? fitting : both, phrase);
         }
 
         private int fitting(int phrase) {
             if (!order.hasPhrase(phrase)) {
                 return 0;
             }
-            return world.described(world.reachable(), order.adjectiveSets[phrase], order.nouns[phrase]);
+            return world.described(reach, order.adjectiveSets[phrase], order.nouns[phrase]);
         }
 
         private int orNothing(int set, int phrase) {

@@ -338,6 +338,8 @@ public final class PromisesTest {
         nothing("open all", 1);
         does("shut all p1", 8, 8);
         does("drop p0 and n1", 15, 15);
+        does("take n1 and all", 15, 15);
+        does("drop a1 n0 and all", 15, 15);
         does("take all and n1", 15, 15);
     }
 
