@@ -25,6 +25,10 @@ final class Check {
         }
     }
 
+    static int wrongSoFar() {
+        return wrong;
+    }
+
     static void end() {
         if (wrong > 0) {
             System.exit(1);

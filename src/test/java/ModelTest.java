@@ -4,11 +4,14 @@ import java.util.List;
 
 /** Long runs of calls, the same for a parlour and a plainer one; each answer is compared. */
 public final class ModelTest {
-    private static final int RUNS = 3000;
-    private static final int TURNS = 60;
+    private static final int RUNS = 8000;
+    private static final int MOST_CALLS = 512;
     private static final int MOST_WORDS = 24;
+    /** One thing, words that are given and taken back, say(), and what is compared. */
+    private static final int MOST_CALLS_OF_A_TURN = 1 + 3 * MOST_WORDS + 1 + 10 + 24;
     private static final int[] outcomes = new int[6];
     private static int lot = 7;
+    private static int calls = 0;
     private static int answersThatAskedOn = 0;
     private static int answersThatMeantNothing = 0;
 
@@ -30,10 +33,11 @@ public final class ModelTest {
         int nouns = 1 + draw(3);
         int adjectives = 1 + draw(3);
         int atFirst = draw(9);
+        calls = 0;
         for (int k = 0; k < atFirst; k++) {
             addThing(parlour, plain, nouns, adjectives);
         }
-        for (int turn = 0; turn < TURNS; turn++) {
+        for (int turn = 0; calls + MOST_CALLS_OF_A_TURN <= MOST_CALLS; turn++) {
             if (draw(10) == 0) {
                 addThing(parlour, plain, nouns, adjectives);
             }
@@ -46,7 +50,11 @@ public final class ModelTest {
                 words.remove(words.size() - 1);
             }
             say(parlour, plain, words);
-            compare("run " + run + ", turn " + turn + ", words " + words, parlour, plain);
+            String where = "run " + run + ", turn " + turn + ", words " + words;
+            compareWords(where, parlour, plain);
+            if (turn % 4 == run % 4) {
+                compareThings(where, parlour, plain);
+            }
             boolean wasAnswer = asked && !words.isEmpty() && words.get(0) > ParserParlour.SHUT;
             answersThatAskedOn += wasAnswer && plain.outcome == PlainParlour.ASKED ? 1 : 0;
             answersThatMeantNothing += wasAnswer && plain.outcome == PlainParlour.NOTHING ? 1 : 0;
@@ -58,6 +66,7 @@ public final class ModelTest {
             int noun = draw(nouns);
             int set = draw(1 << adjectives);
             boolean box = draw(2) == 0;
+            calls++;
             parlour.thing(noun, set, box);
             plain.thing(noun, set, box);
         }
@@ -66,17 +75,21 @@ public final class ModelTest {
     private static void say(ParserParlour parlour, PlainParlour plain, List<Integer> words) {
         for (int word : words) {
             if (draw(20) == 0) {
+                calls += 2;
                 parlour.word(ParserParlour.IT);
                 parlour.back();
             }
+            calls++;
             parlour.word(word);
         }
+        calls++;
         parlour.say();
         plain.say(words, Grammar.wrongAt(words));
         outcomes[plain.outcome]++;
     }
 
-    private static void compare(String where, ParserParlour parlour, PlainParlour plain) {
+    private static void compareWords(String where, ParserParlour parlour, PlainParlour plain) {
+        calls += 10;
         Check.due(where + ": outcome", plain.outcome, parlour.outcome());
         Check.due(where + ": wrongAt", plain.wrongAt, parlour.wrongAt());
         Check.due(where + ": verb", plain.verb, parlour.verb());
@@ -87,6 +100,10 @@ public final class ModelTest {
         Check.due(where + ": askedAt", plain.askedAt, parlour.askedAt());
         Check.due(where + ": questions", plain.questions, parlour.questions());
         Check.due(where + ": inReach", bits(plain.reach()), parlour.inReach());
+    }
+
+    private static void compareThings(String where, ParserParlour parlour, PlainParlour plain) {
+        calls += 2 * plain.things.size();
         for (int k = 0; k < plain.things.size(); k++) {
             Check.due(where + ": placeOf " + k, plain.place(k), parlour.placeOf(k));
             Check.due(where + ": isOpen " + k, plain.open(k) ? 1 : 0, parlour.isOpen(k) ? 1 : 0);

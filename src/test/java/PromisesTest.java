@@ -1,10 +1,5 @@
 /** Each promise by itself: ordinary inputs, the edges that the document names, wrong inputs. */
-public final class PromisesTest {
-    private static final int NONE = -1, ROOM = -2, HAND = -3;
-    private static final int DONE = 0, ASKED = 1, EMPTY = 2, NO_VERB = 3, WRONG = 4, NOTHING = 5;
-
-    private static ParserParlour parlour;
-
+public final class PromisesTest extends Trial {
     public static void main(String[] args) {
         promise1NewObject();
         promise2Thing();
@@ -33,80 +28,6 @@ public final class PromisesTest {
         promises15And16Question();
         promise17Questions();
         Check.end();
-    }
-
-    // ---- worlds
-
-    /** Boxes with the nouns 0, 1, .., without adjectives; all in the room, and open. */
-    private static void openBoxes(int count) {
-        parlour = new ParserParlour();
-        for (int k = 0; k < count; k++) {
-            parlour.thing(k, 0, true);
-        }
-        says("open all", DONE);
-    }
-
-    /** Things with the noun 0, the thing k with the adjective k alone; all in the room. */
-    private static void things(int count) {
-        parlour = new ParserParlour();
-        for (int k = 0; k < count; k++) {
-            parlour.thing(0, 1 << k, false);
-        }
-    }
-
-    // ---- what is due
-
-    private static void says(String words, int want) {
-        Check.due("say '" + words + "'", want, Say.say(parlour, words));
-        Check.due("outcome behind '" + words + "'", want, parlour.outcome());
-    }
-
-    private static void does(String words, int meant, int done) {
-        says(words, DONE);
-        Check.due("meant behind '" + words + "'", meant, parlour.meant());
-        Check.due("done behind '" + words + "'", done, parlour.done());
-        Check.due("wrongAt behind '" + words + "'", NONE, parlour.wrongAt());
-        question(0, NONE);
-    }
-
-    private static void asks(String words, int things, int place) {
-        int before = parlour.questions();
-        says(words, ASKED);
-        Check.due("wrongAt behind '" + words + "'", NONE, parlour.wrongAt());
-        Check.due("questions behind '" + words + "'", before + 1, parlour.questions());
-        question(things, place);
-    }
-
-    private static void question(int things, int place) {
-        Check.due("asked behind outcome " + parlour.outcome(), things, parlour.asked());
-        Check.due("askedAt behind outcome " + parlour.outcome(), place, parlour.askedAt());
-    }
-
-    private static void nothing(String words, int place) {
-        says(words, NOTHING);
-        Check.due("wrongAt behind '" + words + "'", place, parlour.wrongAt());
-    }
-
-    private static void wrong(String words, int place) {
-        says(words, WRONG);
-        Check.due("wrongAt behind '" + words + "'", place, parlour.wrongAt());
-    }
-
-    private static void places(int... want) {
-        for (int k = 0; k < want.length; k++) {
-            Check.due("placeOf " + k, want[k], parlour.placeOf(k));
-        }
-    }
-
-    private static void open(int thing, boolean want) {
-        Check.due("isOpen " + thing, want ? 1 : 0, parlour.isOpen(thing) ? 1 : 0);
-    }
-
-    private static void last(int verb, int meant, int done, int into) {
-        Check.due("verb", verb, parlour.verb());
-        Check.due("meant", meant, parlour.meant());
-        Check.due("done", done, parlour.done());
-        Check.due("into", into, parlour.into());
     }
 
     // ---- the promises
@@ -239,11 +160,6 @@ public final class PromisesTest {
         parlour.word(0);
         parlour.say();
         Check.due("the first word behind say()", 1, parlour.word(0));
-    }
-
-    private static boolean isWord(int word) {
-        return word >= 0 && word <= 4 || word >= 10 && word <= 17 || word >= 20 && word <= 25
-                || word >= 30 && word <= 37 || word >= 40 && word <= 47;
     }
 
     private static void promise7Back() {
@@ -670,6 +586,7 @@ public final class PromisesTest {
         wrong("take all a0 and n0", 3);
         wrong("take p0 p0", 2);
         wrong("take all p0 p0", 3);
+        things(1);
         wrong("take all but p0", 3);
         wrong("take all but all", 3);
         wrong("take all but them", 3);
