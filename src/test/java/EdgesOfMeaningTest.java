@@ -31,6 +31,7 @@ public final class EdgesOfMeaningTest extends Edges {
                 + "moment the verb suits it; otherwise not with that thing.", EdgesOfMeaningTest::byRisingNumbers);
         edge("PUT puts it into the thing behind IN, if IN suits that", EdgesOfMeaningTest::putIfInSuits);
         edge("it is another thing, and not inside the first one", EdgesOfMeaningTest::putIntoAnother);
+        edge("While there is a question, the order is kept.", EdgesOfMeaningTest::orderIsKept);
         edge("Words that begin with a verb are a new order, and the question is dropped, also if they are wrong.",
                 EdgesOfMeaningTest::newOrder);
         edge("[THE] adjectives [noun | ONE], at least one word other than THE", EdgesOfMeaningTest::answers);
@@ -374,6 +375,28 @@ public final class EdgesOfMeaningTest extends Edges {
     }
 
     // ---- questions
+
+    private static void orderIsKept() {
+        things(2);
+        asks("take" + times("n0 and", 11) + "n0", 3, 1);
+        // words that are taken back, a thing that comes, and answers that are none do not touch it
+        for (int k = 0; k < MOST_WORDS; k++) {
+            parlour.word(ParserParlour.SHUT);
+        }
+        for (int k = 0; k < MOST_WORDS; k++) {
+            parlour.back();
+        }
+        parlour.thing(1, 0, false);
+        says("the", WRONG);
+        nothing("n7", NONE);
+        says("", EMPTY);
+        question(3, 1);
+        for (int k = 1; k <= 11; k++) {
+            asks("a0", 3, 1 + 2 * k);
+        }
+        does("a1", 3, 3);
+        last(0, 3, 3, NONE);
+    }
 
     private static void newOrder() {
         things(2);

@@ -335,10 +335,10 @@ public final class EdgesOfPromisesTest extends Edges {
         refusesBack();
         does("take n0", 1, 1);
         refusesBack();
-        asksAgainWithoutWords();
+        backDuringAQuestion();
     }
 
-    private static void asksAgainWithoutWords() {
+    private static void backDuringAQuestion() {
         things(2);
         asks("take n0", 3, 1);
         refusesBack();
