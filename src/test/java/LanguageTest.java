@@ -58,7 +58,8 @@ public final class LanguageTest {
     private static void methodsAreShort(String[] lines) {
         int methods = 0;
         for (int head = 0; head < lines.length; head++) {
-            if (!lines[head].matches("( {4}| {8})[A-Za-z].*\\).*\\{") || lines[head].matches(" +(if|for|while|switch) .*")) {
+            boolean opens = lines[head].matches("( {4}| {8})[A-Za-z].*\\).*\\{");
+            if (!opens || lines[head].matches(" +(if|for|while|switch) .*")) {
                 continue;
             }
             String end = lines[head].replaceAll("\\S.*", "}");
